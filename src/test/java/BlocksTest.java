@@ -369,6 +369,9 @@ public final class BlocksTest {
             .detailed(90, 3550, 800, 160, 48, 32, 600, 18, 3, 4)
             .detailed(108, 2975, 640, 160, 48, 32, 480, 18, 3, 4));
         Due.holds("9 five were told", five.bytes.length == 128);
+        new Blocks(0).detailed(54, 65535, 4095, 4095, 1023, 1023, 4095, 4095, 63, 63).loadSealed(x);
+        same("9 each part as great as can be", x,
+            new Blocks(0).detailed(54, 65535, 4095, 4095, 1023, 1023, 4095, 4095, 63, 63));
         x.load(0);
         Due.due("9 a fault changes nothing", x.forged(18), 1);
     }

@@ -105,6 +105,9 @@ public final class FormulasTest {
             }
             Due.due("15 fastest of " + a[1] + "x" + a[2], x.fastest(a[0], a[1], a[2], a[3], a[4], a[5]), want);
         }
+        Due.due("15 NEED just as ROOM", x.fastest(1, 898, 1193, 1, 0, 6), 60);
+        Due.due("15 20 at least, NEED just as ROOM", x.fastest(1, 1920, 885, 1, 0, 12), 20);
+        Due.due("15 20 has no room", x.fastest(1, 1920, 886, 1, 0, 12), -1);
         Due.due("15 all of them", x.fastest(1, 64, 48, 1, 0, 6), 240);
         Due.due("15 none of them", x.fastest(0, 4095, 4095, 1, 0, 12), -1);
         Due.due("15 the formula first", x.fastest(2, 0, 0, 0, 0, 0), -2);

@@ -150,6 +150,10 @@ public final class ModesTest {
             Due.due("10 left out by range " + i, x.told(23), i == 0 ? 0 : 1);
         }
         ScreenTalk x = new ScreenTalk();
+        Due.due("10 CLOCK just above RANGE's", new Blocks(0).detailed(54, 15001, FULL_HD)
+            .range(72, 0, 255, 0, 255, 15).loadSealed(x), 0);
+        Due.due("10 lines of one pixel", new Blocks(0).detailed(54, 10, 1, 0, 0, 0, 2000, 0, 0, 0)
+            .range(72, 50, 50, 100, 100, 1).loadSealed(x), 1);
         Due.due("10 CLOCK just as RANGE's", new Blocks(0).detailed(54, 15000, FULL_HD)
             .range(72, 0, 255, 0, 255, 15).loadSealed(x), 1);
         Due.due("10 the latest RANGE", new Blocks(0).detailed(54, 15000, FULL_HD)
