@@ -19,6 +19,7 @@ public final class ModesEdgesTest {
         leftOutByTheFirst();
         likeOnes();
         likeOneThatWasLeftOut();
+        foundInThisOrder();
         forty();
         likeOneOfForty();
         preferredIfItIsAMode();
@@ -277,6 +278,21 @@ public final class ModesEdgesTest {
         Say.due("the first is above MOST", loaded(most(new Blocks(1), 13)
             .detailed(54, 12000, 800, 1200, 0, 0, 600, 400, 0, 0).detailed(72, 6010, p)), "told(16)", 1, "told(24)", 1,
             "told(25)", 0);
+    }
+
+    /** "in this order they are found: 0 DETAILED of the BASE, 1 of EXTENSIONS, 2 by CODES, 3 STANDARD, 4 ESTABLISHED". */
+    private static void foundInThisOrder() {
+        int[] hd = {1280, 370, 110, 40, 720, 30, 5, 5};
+        Say.due("0 ahead of 1", loaded(new Blocks(1).set(130, 4).detailed(132, 7425, hd).detailed(108, 7426, hd)),
+            "told(25)", 1, "mode(0, 6)", 0, "mode(0, 3)", 74260);
+        Say.due("1 ahead of 2", loaded(new Blocks(1).data(1, 0x41, 4).detailed(134, 7426, hd)), "told(25)", 1,
+            "mode(0, 6)", 1, "mode(0, 3)", 74260);
+        Say.due("1 of the last ahead of 2 of the first", loaded(new Blocks(2).data(1, 0x41, 4).set(258, 4)
+            .detailed(260, 7426, hd)), "told(25)", 1, "mode(0, 6)", 1);
+        Say.due("2 ahead of 3", loaded(new Blocks(1).set(38, 0xD1, 0xC0).data(1, 0x41, 16)), "told(25)", 1,
+            "mode(0, 6)", 2, "mode(0, 3)", 148500);
+        Say.due("3 ahead of 4", loaded(new Blocks(0).set(35, 1).set(52, 0x45, 0x40)), "told(25)", 1, "mode(0, 6)", 3);
+        Say.due("4 alone", loaded(new Blocks(0).set(35, 1)), "told(25)", 0, "mode(0, 6)", 4, "mode(0, 3)", 35500);
     }
 
     /** 22 DETAILED ones of like size, 11 by CODES; STANDARD ones come to it. */
