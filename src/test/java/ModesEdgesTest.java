@@ -352,6 +352,7 @@ public final class ModesEdgesTest {
         }
     }
 
+    /** "that of the BASE's first DESCRIPTOR": of no later one, of no EXTENSION, of no other kind. */
     private static void preferredOfTheFirstDescriptor() {
         Say.due("the first tells a NAME", loaded(new Blocks(0).named(54, "N").detailed(72, 14850, FULL_HD)),
             "mode(0, 7)", 0, "mode(0, 6)", 0);

@@ -56,6 +56,7 @@ public final class ScreenEdgesTest {
         Say.due("6 behind Z", loaded(new Blocks(0).set(8, 0x6F, 0xFF)), "told(0)", 91, "told(1)", 95, "told(2)", 95);
     }
 
+    /** "b21, b22 WIDTH, HEIGHT in centimetres"; "5 EXTENSIONS": 0 and 255, 0 and 3. */
     private static void widthHeightExtensions() {
         Say.due("6 the least", loaded(new Blocks(0)), "told(3)", 0, "told(4)", 0, "told(5)", 0);
         Say.due("6 the greatest", loaded(new Blocks(3).set(21, 255, 255)), "told(3)", 255, "told(4)", 255, "told(5)", 3);

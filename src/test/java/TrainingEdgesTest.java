@@ -564,6 +564,7 @@ public final class TrainingEdgesTest {
         }
     }
 
+    /** Promise 29: "NONE: none is CARRIED; -2: what". */
     private static void shownNumbers() {
         ScreenTalk x = tried(0, 0, 2, 3);
         Say.due("29 none is CARRIED", x, "shown(0)", -1, "shown(1)", -1, "shown(2)", -1, "shown(3)", -2, "shown(-1)", -2);
