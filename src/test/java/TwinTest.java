@@ -83,8 +83,8 @@ public final class TwinTest {
         }
     }
 
-    private static void screen(Random r, int seed) {
-        ScreenTalk x = new ScreenTalk();
+    /** Right ones, or, one time of three, with two bytes that may be wrong. */
+    static Blocks someMaybeWrong(Random r) {
         Blocks b = some(r).sealed();
         if (r.nextInt(3) == 0) {
             int[] places = {0, 3, 7, 18, 126, 127, 128, 130, 132, 200, 256, 258, 260, 384, 386, 388};
@@ -96,6 +96,12 @@ public final class TwinTest {
                 b.sealed();
             }
         }
+        return b;
+    }
+
+    private static void screen(Random r, int seed) {
+        ScreenTalk x = new ScreenTalk();
+        Blocks b = someMaybeWrong(r);
         Twin t = new Twin(b.bytes);
         String s = "screen " + seed + ": ";
         Due.due(s + "load", b.load(x), t.fault == 0 ? t.modes.size() : -30 - t.fault);
